@@ -138,19 +138,11 @@ public final class ActTest {
 
     private static void checkManyPreludes(Check check) {
         PolicyMonitor x = new PolicyMonitor();
-        int[] tops = new int[20];
+        int[] preludes = new int[20];
         for (int i = 0; i < 20; i++) {
-            tops[i] = x.policy(Kinds.PRELUDE, 1, 1, 1 << i);
+            preludes[i] = x.policy(Kinds.PRELUDE, 1, 1, 1 << i);
         }
-        for (int size = 20; size > 1; size = (size + 1) / 2) {
-            for (int i = 0; i + 1 < size; i += 2) {
-                tops[i / 2] = x.policy(Kinds.BOTH, tops[i], tops[i + 1], 0);
-            }
-            if (size % 2 == 1) {
-                tops[size / 2] = tops[size - 1];
-            }
-        }
-        x.install(tops[0]);
+        x.install(Kinds.join(x, Kinds.BOTH, preludes));
         check.is("count(0)", x.count(0), 39);
         check.gives("twenty INSERTS at depth 1", () -> x.act(0, 3), 3);
         check.is("each once", x.total(1), (1 << 20) - 1);

@@ -20,9 +20,43 @@ public final class AskTest {
             check.refused("ask(" + sort + ", 0)", () -> x.ask(sort, 0));
         }
         checkNothingChanges(check);
+        checkNothingIsSpent(check);
+        checkBeforeAndAfterInstall(check);
         check.end();
     }
 
+    /** A PRELUDE that was asked is as ready for the next act as before. */
+    private static void checkNothingIsSpent(Check check) {
+        PolicyMonitor x = new PolicyMonitor();
+        x.policy(Kinds.PRELUDE, 1, 1, 5);
+        x.install(0);
+        for (int round = 1; round <= 2; round++) {
+            check.is("ask(0, 0)", x.ask(0, 0), Kinds.INSERT);
+            check.is("ask(0, 0) again", x.ask(0, 0), Kinds.INSERT);
+            x.act(0, 1);
+            check.is("total(1)", x.total(1), 5 * round);
+        }
+    }
+
+    /** '0 without an installed POLICY': for every sort, also when there are POLICIES. */
+    private static void checkBeforeAndAfterInstall(Check check) {
+        PolicyMonitor x = new PolicyMonitor();
+        for (int kind = 1; kind <= 5; kind++) {
+            Kinds.suggesting(x, kind, Kinds.ALL, 1);
+            for (int sort = 0; sort < 8; sort++) {
+                check.is("ask(" + sort + ", 0), none installed", x.ask(sort, 0), 0);
+            }
+        }
+        for (int number = 0; number < 5; number++) {
+            x.install(number);
+            for (int sort = 0; sort < 8; sort++) {
+                check.is("ask(" + sort + ", 0)", x.ask(sort, 0), number + 1);
+            }
+        }
+        check.is("a HALT that is only asked for does not stop", x.count(5), 0);
+    }
+
+    /** 'without noting or changing anything'. */
     private static void checkNothingChanges(Check check) {
         for (int kind = 1; kind <= 5; kind++) {
             PolicyMonitor x = new PolicyMonitor();

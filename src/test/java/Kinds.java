@@ -45,4 +45,18 @@ final class Kinds {
                 return x.policy(ALLOW, 0, 0, 0);
         }
     }
+
+    /** Joins policies by pairs of one kind to a single one, with a LEVEL as low as can be: its number. */
+    static int join(PolicyMonitor x, int kind, int[] policies) {
+        int[] tops = policies.clone();
+        for (int size = tops.length; size > 1; size = (size + 1) / 2) {
+            for (int i = 0; i + 1 < size; i += 2) {
+                tops[i / 2] = x.policy(kind, tops[i], tops[i + 1], 0);
+            }
+            if (size % 2 == 1) {
+                tops[size / 2] = tops[size - 1];
+            }
+        }
+        return tops[0];
+    }
 }

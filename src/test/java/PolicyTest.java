@@ -1,4 +1,4 @@
-/** Promise 3. */
+/** Promise 3: what kinds and operands may be. PolicyLimitsTest has the rest of it. */
 public final class PolicyTest {
     private static final int LOW = Integer.MIN_VALUE;
     private static final int HIGH = Integer.MAX_VALUE;
@@ -9,10 +9,6 @@ public final class PolicyTest {
         checkSets(check);
         checkOtherOperands(check);
         checkPolicyOperands(check);
-        checkUse(check);
-        checkLevels(check);
-        checkNumber(check);
-        checkOrder(check);
         check.end();
     }
 
@@ -27,6 +23,7 @@ public final class PolicyTest {
         check.gives("policy(" + kind + ", " + a + ", " + b + ", " + c + ")", () -> x.policy(kind, a, b, c), number);
     }
 
+    /** 'kind out of 0 .. 14'. */
     private static void checkKinds(Check check) {
         PolicyMonitor x = new PolicyMonitor();
         int[] wrong = {LOW, -1, 15, 16, HIGH};
@@ -45,6 +42,7 @@ public final class PolicyTest {
         made(check, x, Kinds.TURN, 10, 1, 0);
     }
 
+    /** 'A SET of sorts is a sum of 2^sort, 0 .. 255.' */
     private static void checkSets(Check check) {
         PolicyMonitor x = new PolicyMonitor();
         int[] withSets = {0, 1, 2, 3, 4, 5, 7};
@@ -63,6 +61,7 @@ public final class PolicyTest {
         made(check, x, Kinds.ONLY, 255, 1, 0);
     }
 
+    /** 'b (0 .. 99)', 'PRELUDE: b a sort', 'AUTOMATON a (0 .. 2)', 'kind b (1, 4 or 5)', 'kind c (0, 1, 4 or 5)'. */
     private static void checkOtherOperands(Check check) {
         PolicyMonitor x = new PolicyMonitor();
         int[] quotas = {LOW, -1, 100, HIGH};
@@ -100,6 +99,7 @@ public final class PolicyTest {
         checkUnnamedOperands(check);
     }
 
+    /** 'those that are not named may be any int'. */
     private static void checkUnnamedOperands(Check check) {
         PolicyMonitor x = new PolicyMonitor();
         int[] any = {LOW, -1, 8, 256, HIGH};
@@ -115,10 +115,27 @@ public final class PolicyTest {
         made(check, x, Kinds.AUDIT, 3, LOW, HIGH);
         made(check, x, Kinds.AUDIT, 4, 4, 4);
         made(check, x, Kinds.AUDIT, 5, 3, 3);
-        // For these a set, and a kind of suggestion, may well be the number of the operand beside it.
+        // A set may well be the number of the operand beside it.
         made(check, x, Kinds.ONLY, 6, 6, 0);
+        made(check, x, Kinds.EITHER, 7, 8, LOW);
+        made(check, x, Kinds.FIRST, 9, 10, HIGH);
+        made(check, x, Kinds.OVERRULE, 11, 12, -1);
+        checkThatUnnamedOperandsAreNotUsed(check);
     }
 
+    private static void checkThatUnnamedOperandsAreNotUsed(Check check) {
+        PolicyMonitor x = new PolicyMonitor();
+        for (int i = 0; i < 6; i++) {
+            made(check, x, Kinds.ALLOW, 0, 0, 0);
+        }
+        made(check, x, Kinds.AUDIT, 1, 0, 0);
+        made(check, x, Kinds.BOTH, 2, 3, 0);
+        made(check, x, Kinds.ONLY, 0, 4, 0);
+        made(check, x, Kinds.TURN, 5, 4, 0);
+        made(check, x, Kinds.AUDIT, 0, 0, 0);
+    }
+
+    /** 'their operands are earlier POLICIES'. */
     private static void checkPolicyOperands(Check check) {
         PolicyMonitor x = new PolicyMonitor();
         made(check, x, Kinds.ALLOW, 1, 0, 0);
@@ -134,91 +151,5 @@ public final class PolicyTest {
             refused(check, x, Kinds.TURN, number, 1, 0);
         }
         made(check, x, Kinds.BOTH, 1, 0, 0);
-    }
-
-    private static void checkUse(Check check) {
-        PolicyMonitor x = new PolicyMonitor();
-        for (int i = 0; i < 8; i++) {
-            x.policy(Kinds.ALLOW, 1, 0, 0);
-        }
-        for (int kind = Kinds.BOTH; kind <= Kinds.OVERRULE; kind++) {
-            int k = kind;
-            check.forbidden("the same twice", () -> x.policy(k, 7, 7, 0));
-        }
-        made(check, x, Kinds.BOTH, 0, 1, 0);
-        made(check, x, Kinds.ONLY, 1, 2, 0);
-        made(check, x, Kinds.AUDIT, 3, 0, 0);
-        made(check, x, Kinds.TURN, 4, 1, 0);
-        for (int number = 0; number <= 4; number++) {
-            int p = number;
-            for (int kind = Kinds.BOTH; kind <= Kinds.OVERRULE; kind++) {
-                int k = kind;
-                check.forbidden("a is used: " + p, () -> x.policy(k, p, 7, 0));
-                check.forbidden("b is used: " + p, () -> x.policy(k, 7, p, 0));
-            }
-            check.forbidden("ONLY of " + p, () -> x.policy(Kinds.ONLY, 1, p, 0));
-            check.forbidden("AUDIT of " + p, () -> x.policy(Kinds.AUDIT, p, 0, 0));
-            check.forbidden("TURN of " + p, () -> x.policy(Kinds.TURN, p, 1, 0));
-        }
-        // Refused calls used nothing up; a of ONLY and b of TURN are no policies.
-        made(check, x, Kinds.AUDIT, 7, 0, 0);
-        made(check, x, Kinds.ONLY, 0, 5, 0);
-        made(check, x, Kinds.TURN, 6, 4, 0);
-    }
-
-    private static void checkLevels(Check check) {
-        PolicyMonitor x = new PolicyMonitor();
-        made(check, x, Kinds.ALLOW, 1, 0, 0);
-        made(check, x, Kinds.AUDIT, 0, 0, 0);
-        made(check, x, Kinds.ONLY, 1, 1, 0);
-        made(check, x, Kinds.TURN, 2, 1, 0);
-        made(check, x, Kinds.FORBID, 1, 0, 0);
-        made(check, x, Kinds.BOTH, 3, 4, 0);
-        made(check, x, Kinds.FORBID, 1, 0, 0);
-        made(check, x, Kinds.FIRST, 6, 5, 0);
-        made(check, x, Kinds.AUDIT, 7, 0, 0);
-        made(check, x, Kinds.FORBID, 1, 0, 0);
-        for (int kind = Kinds.BOTH; kind <= Kinds.OVERRULE; kind++) {
-            int k = kind;
-            check.stopped("level 8 by a", () -> x.policy(k, 8, 9, 0));
-            check.stopped("level 8 by b", () -> x.policy(k, 9, 8, 0));
-        }
-        check.stopped("level 8 by ONLY", () -> x.policy(Kinds.ONLY, 1, 8, 0));
-        check.stopped("level 8 by AUDIT", () -> x.policy(Kinds.AUDIT, 8, 0, 0));
-        check.stopped("level 8 by TURN", () -> x.policy(Kinds.TURN, 8, 1, 0));
-        check.is("count(0)", x.count(0), 10);
-        made(check, x, Kinds.AUDIT, 9, 0, 0);
-    }
-
-    private static void checkNumber(Check check) {
-        PolicyMonitor x = new PolicyMonitor();
-        for (int i = 0; i < 40; i++) {
-            made(check, x, Kinds.ALLOW, 1, 0, 0);
-        }
-        check.tooDeep("the 41st", () -> x.policy(Kinds.ALLOW, 1, 0, 0));
-        check.tooDeep("the 41st, with operands", () -> x.policy(Kinds.BOTH, 38, 39, 0));
-        check.is("count(0)", x.count(0), 40);
-        check.gives("install(39)", () -> x.install(39), 0);
-    }
-
-    private static void checkOrder(Check check) {
-        PolicyMonitor x = new PolicyMonitor();
-        made(check, x, Kinds.ALLOW, 1, 0, 0);
-        for (int i = 0; i < 6; i++) {
-            made(check, x, Kinds.AUDIT, i, 0, 0);
-        }
-        check.refused("used and not as said", () -> x.policy(Kinds.TURN, 0, 2, 0));
-        check.refused("a used, b none such", () -> x.policy(Kinds.BOTH, 0, 7, 0));
-        check.forbidden("b used, a of level 7", () -> x.policy(Kinds.BOTH, 6, 0, 0));
-        check.forbidden("the same, of level 7", () -> x.policy(Kinds.BOTH, 6, 6, 0));
-        while (x.count(0) < 40) {
-            made(check, x, Kinds.ALLOW, 1, 0, 0);
-        }
-        refused(check, x, Kinds.ALLOW, 256, 0, 0);
-        refused(check, x, 15, 0, 0, 0);
-        check.forbidden("used, and there are 40", () -> x.policy(Kinds.AUDIT, 0, 0, 0));
-        check.forbidden("the same, and there are 40", () -> x.policy(Kinds.BOTH, 39, 39, 0));
-        check.stopped("level 8, and there are 40", () -> x.policy(Kinds.AUDIT, 6, 0, 0));
-        check.tooDeep("there are 40", () -> x.policy(Kinds.AUDIT, 39, 0, 0));
     }
 }

@@ -3,6 +3,7 @@ public final class SuggestTest {
     public static void main(String[] args) {
         Check check = new Check();
         checkKindsWithSets(check);
+        checkEmptyAndFullSets(check);
         checkQuota(check);
         checkAutomaton(check);
         checkRange(check);
@@ -28,6 +29,28 @@ public final class SuggestTest {
         }
     }
 
+    /** The SETS 0, of no sort, and 255, of all. */
+    private static void checkEmptyAndFullSets(Check check) {
+        int[] withSets = {Kinds.ALLOW, Kinds.FORBID, Kinds.STOP, Kinds.QUOTA, Kinds.ANSWER, Kinds.PRELUDE,
+            Kinds.RANGE};
+        int[] due = {Kinds.OK, Kinds.EXCEPTION, Kinds.HALT, Kinds.OK, Kinds.REPLACE, Kinds.INSERT, Kinds.OK};
+        for (int i = 0; i < due.length; i++) {
+            PolicyMonitor x = new PolicyMonitor();
+            x.policy(withSets[i], 0, 1, 1);
+            x.policy(withSets[i], 255, 1, 1);
+            x.policy(Kinds.ONLY, 0, 1, 0);
+            for (int sort = 0; sort < 8; sort++) {
+                x.install(0);
+                check.is("the SET 0 of kind " + withSets[i], x.ask(sort, 1), Kinds.IRRELEVANT);
+                x.install(1);
+                check.is("the SET 255 of kind " + withSets[i], x.ask(sort, 1), due[i]);
+                x.install(2);
+                check.is("the SET 0 of ONLY", x.ask(sort, 1), Kinds.IRRELEVANT);
+            }
+        }
+    }
+
+    /** 'OK if its COUNT is below b (0 .. 99), else EXCEPTION'. */
     private static void checkQuota(Check check) {
         int[] limits = {0, 1, 2, 99};
         for (int limit : limits) {
@@ -70,11 +93,13 @@ public final class SuggestTest {
         check.is("entry 3", x.state(0), 3);
     }
 
+    /** 'OK if b <= v <= c, else EXCEPTION'. */
     private static void checkRange(Check check) {
         PolicyMonitor x = new PolicyMonitor();
         x.policy(Kinds.RANGE, 2, -3, 3);
         x.policy(Kinds.RANGE, 2, Integer.MIN_VALUE, Integer.MAX_VALUE);
         x.policy(Kinds.RANGE, 2, 3, -3);
+        x.policy(Kinds.RANGE, 2, 3, 3);
         int[] arguments = {Integer.MIN_VALUE, -4, -3, 0, 3, 4, Integer.MAX_VALUE};
         int[] due = {4, 4, 1, 1, 1, 4, 4};
         for (int i = 0; i < due.length; i++) {
@@ -85,6 +110,8 @@ public final class SuggestTest {
             check.is("all: " + arguments[i], x.ask(1, arguments[i]), Kinds.OK);
             x.install(2);
             check.is("none: " + arguments[i], x.ask(1, arguments[i]), Kinds.EXCEPTION);
+            x.install(3);
+            check.is("3 alone: " + arguments[i], x.ask(1, arguments[i]), arguments[i] == 3 ? 1 : 4);
         }
     }
 
@@ -104,6 +131,7 @@ public final class SuggestTest {
         }
     }
 
+    /** 'a's if they are of the same kind', 'if both SUGGEST IRRELEVANT', and all the other pairs. */
     private static void checkPairs(Check check) {
         for (int kind = Kinds.BOTH; kind <= Kinds.OVERRULE; kind++) {
             for (int a = 0; a <= 5; a++) {
