@@ -69,6 +69,7 @@ public final class InstallTest {
         check.gives("install(0), which is used", () -> x.install(0), 0);
         check.gives("act(0, 5)", () -> x.act(0, 5), 15);
         check.is("nothing more is noted", x.count(1), 1);
+        check.forbidden("it is still used", () -> x.policy(Kinds.AUDIT, 0, 0, 0));
     }
 
     private static void checkProgressIsForgotten(Check check) {

@@ -10,6 +10,7 @@ public final class SuggestTest {
         checkPairs(check);
         checkOnly(check);
         checkTurn(check);
+        checkDetailsGoThrough(check);
         check.end();
     }
 
@@ -207,6 +208,23 @@ public final class SuggestTest {
                     check.is("TURN " + b + " " + c + " of " + given, x.ask(0, 0), given == b ? c : given);
                 }
             }
+        }
+    }
+
+    /** ONLY, AUDIT and TURN leave the ACTION of an INSERT and the value of a REPLACE as they are. */
+    private static void checkDetailsGoThrough(Check check) {
+        PolicyMonitor x = new PolicyMonitor();
+        x.policy(Kinds.PRELUDE, 1, 6, -33);
+        x.policy(Kinds.ANSWER, 2, 44, 0);
+        x.policy(Kinds.FIRST, 0, 1, 0);
+        x.policy(Kinds.TURN, 2, Kinds.OK, Kinds.HALT);
+        x.policy(Kinds.ONLY, 3, 3, 0);
+        x.policy(Kinds.AUDIT, 4, 0, 0);
+        for (int number = 2; number <= 5; number++) {
+            x.install(number);
+            check.gives("the INSERT's sort", () -> x.detail(0, 0, 0), 6);
+            check.gives("the INSERT's argument", () -> x.detail(0, 0, 1), -33);
+            check.gives("the REPLACE's value", () -> x.detail(1, 0, 2), 44);
         }
     }
 }
