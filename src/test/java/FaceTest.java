@@ -8,8 +8,18 @@ import java.util.TreeSet;
 
 /** The public face as a whole, and LANGUAGE.md's rules 1 and 5 on it. */
 public final class FaceTest {
+    /** Each public method with the number of its parameters and the exceptions of its throws clause. */
     private static final Set<String> FACE = new TreeSet<>(Arrays.asList(
-            "table 4", "policy 4", "install 1", "act 2", "ask 2", "detail 3", "total 1", "state 1", "noted 1",
+            "table 4 IllegalArgumentException",
+            "policy 4 IllegalArgumentException IllegalStateException UnsupportedOperationException"
+                + " ArithmeticException",
+            "install 1 IllegalArgumentException",
+            "act 2 IllegalArgumentException UnsupportedOperationException IllegalStateException ArithmeticException",
+            "ask 2 IllegalArgumentException",
+            "detail 3 IllegalArgumentException IllegalStateException",
+            "total 1 IllegalArgumentException",
+            "state 1",
+            "noted 1",
             "count 1"));
 
     public static void main(String[] args) {
@@ -24,6 +34,7 @@ public final class FaceTest {
         }
         checkMethods(check, c);
         checkFields(check, c);
+        checkClassesInside(check, c);
         check.end();
     }
 
@@ -32,7 +43,7 @@ public final class FaceTest {
         Set<String> names = new TreeSet<>();
         for (Method m : c.getDeclaredMethods()) {
             if (Modifier.isPublic(m.getModifiers())) {
-                open.add(m.getName() + " " + m.getParameterCount());
+                open.add(described(m));
                 names.add(m.getName());
                 checkInts(check, m);
             }
@@ -48,6 +59,14 @@ public final class FaceTest {
                 check.tell("not private, or named as a public method: " + m);
             }
         }
+    }
+
+    private static String described(Method m) {
+        StringBuilder text = new StringBuilder(m.getName() + " " + m.getParameterCount());
+        for (Class<?> type : m.getExceptionTypes()) {
+            text.append(' ').append(type.getSimpleName());
+        }
+        return text.toString();
     }
 
     private static void checkInts(Check check, Method m) {
@@ -66,6 +85,15 @@ public final class FaceTest {
             boolean changes = Modifier.isStatic(f.getModifiers()) && !Modifier.isFinal(f.getModifiers());
             if (!hidden || changes) {
                 check.tell("a field that is not private, or static and not final: " + f);
+            }
+        }
+    }
+
+    private static void checkClassesInside(Check check, Class<?> c) {
+        for (Class<?> inside : c.getDeclaredClasses()) {
+            int m = inside.getModifiers();
+            if (Modifier.isPublic(m) || Modifier.isProtected(m) || !Modifier.isStatic(m)) {
+                check.tell("a class inside that can be seen from outside, or is not static: " + inside);
             }
         }
     }
